@@ -678,7 +678,7 @@ public final class LikeWords {
         }
 
         boolean has(int r) {
-            return r >= 0 && r < held && r < RULE_COUNT;
+            return r >= 0 && r < held;
         }
 
         /** False if there are too many. */
@@ -717,14 +717,14 @@ public final class LikeWords {
         }
 
         int spanOf(int r, boolean left) {
-            if (!has(r)) {
+            if (r < 0 || r >= RULE_COUNT) {
                 return 0;
             }
             return left ? leftSpans[r] : rightSpans[r];
         }
 
         private long codeOf(int r, boolean left) {
-            if (!has(r)) {
+            if (r < 0 || r >= RULE_COUNT) {
                 return 0;
             }
             return left ? leftCodes[r] : rightCodes[r];
@@ -742,7 +742,7 @@ public final class LikeWords {
 
         /** The number in ORDER of the first LETTERS of the LEFT side. */
         int numberOfBeginning(int r, int span) {
-            if (!has(r)) {
+            if (r < 0 || r >= RULE_COUNT) {
                 return 0;
             }
             int value = leftNumbers[r] - scale.firstOf(leftSpans[r]);

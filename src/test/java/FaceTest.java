@@ -1,0 +1,155 @@
+import java.lang.reflect.Array;
+import java.lang.reflect.Field;
+import java.lang.reflect.Method;
+import java.lang.reflect.Modifier;
+import java.nio.file.Files;
+import java.nio.file.Path;
+import java.util.ArrayDeque;
+import java.util.Collections;
+import java.util.IdentityHashMap;
+import java.util.Set;
+import java.util.TreeSet;
+import java.util.regex.Matcher;
+import java.util.regex.Pattern;
+
+/** The face of the class, the rules of LANGUAGE.md that can be seen in its text, and the room that an object takes. */
+public final class FaceTest {
+    private static int wrong = 0;
+
+    private static final String[] CALLS = {
+        "int letters(int)", "int letter(int)", "int clear()", "int slot(int)", "int at(int,int)", "int length(int)",
+        "int law(int,int)", "int free()", "int see(int)", "int seen()", "int least()", "int rule(int,boolean,int)",
+        "int closed()", "int reduce(int,int)", "int like(int,int)", "int states()", "int leads(int,int)",
+        "long count(int)", "long size()", "int nth(long,int)", "long rank(int)", "int power(int,int,int)",
+        "int order(int)", "int inverse(int,int)", "int makes(int,int)", "int total(int)"
+    };
+
+    private static void due(boolean is, String what) {
+        if (!is) {
+            wrong++;
+            System.out.println(what);
+        }
+    }
+
+    private static String face(Method method) {
+        StringBuilder s = new StringBuilder(method.getReturnType().getName()).append(' ').append(method.getName()).append('(');
+        Class<?>[] types = method.getParameterTypes();
+        for (int i = 0; i < types.length; i++) s.append(i > 0 ? "," : "").append(types[i].getName());
+        return s.append(')').toString();
+    }
+
+    private static void lookAtFace() {
+        Set<String> asked = new TreeSet<>(Set.of(CALLS));
+        Set<String> names = new TreeSet<>();
+        for (String call : CALLS) names.add(call.substring(call.indexOf(' ') + 1, call.indexOf('(')));
+        Set<String> found = new TreeSet<>();
+        due(Modifier.isFinal(LikeWords.class.getModifiers()), "the class is not final");
+        for (Method method : LikeWords.class.getDeclaredMethods()) {
+            if (method.isSynthetic()) continue;
+            if (Modifier.isPublic(method.getModifiers())) found.add(face(method));
+            else {
+                due(Modifier.isPrivate(method.getModifiers()), face(method) + " is neither public nor private");
+                due(!names.contains(method.getName()), face(method) + " bears the name of a public one");
+            }
+        }
+        due(found.equals(asked), "the public methods are " + found + ", due are " + asked);
+        Set<String> constants = new TreeSet<>();
+        for (Field field : LikeWords.class.getDeclaredFields()) {
+            if (Modifier.isPublic(field.getModifiers())) constants.add(field.getName());
+            else due(Modifier.isPrivate(field.getModifiers()), field.getName() + " is neither public nor private");
+            due(!Modifier.isStatic(field.getModifiers()) || Modifier.isFinal(field.getModifiers()), field.getName() + " is static");
+        }
+        due(constants.equals(Set.of("UNKNOWN", "OUTSIDE", "STATE", "FULL", "NONE")), "the constants are " + constants);
+        due(LikeWords.class.getConstructors().length == 1, "there is not one public constructor");
+        for (Class<?> inside : LikeWords.class.getDeclaredClasses()) {
+            due(Modifier.isStatic(inside.getModifiers()), inside.getName() + " is not static");
+            due(inside.getDeclaredFields().length <= 20, inside.getName() + " has too many fields");
+        }
+        due(LikeWords.class.getDeclaredClasses().length <= 11, "there are too many classes");
+        due(LikeWords.UNKNOWN == -1 && LikeWords.OUTSIDE == -2 && LikeWords.STATE == -3 && LikeWords.FULL == -4
+                && LikeWords.NONE == -9, "a constant is not as told");
+    }
+
+    private static void lookAtText() throws Exception {
+        String text = Files.readString(Path.of("src/main/java/LikeWords.java"));
+        String code = Pattern.compile("/\\*.*?\\*/|//[^\n]*", Pattern.DOTALL).matcher(text).replaceAll("");
+        String banned = "\\b(throw|throws|try|catch|finally|synchronized|assert|import|package|var|protected|native|volatile"
+                + "|Object|Random|Thread|System|Class|Exception|Error|equals|hashCode|toString|\\w+Exact)\\b|->|::|\"";
+        Matcher matcher = Pattern.compile(banned).matcher(code);
+        while (matcher.find()) due(false, "the text has " + matcher.group());
+        int open = 0;
+        int since = 0;
+        int line = 0;
+        boolean isMethod = false;
+        for (String row : text.split("\n")) {
+            line++;
+            due(row.length() <= 120, "line " + line + " is too long");
+            if (row.matches("    (    )?(public|private|final|static|[a-zA-Z\\[\\]]+) ?.*\\) \\{") && !row.contains(" class ")) {
+                since = line;
+                isMethod = true;
+            }
+            if (isMethod && row.matches("    (    )?\\}")) {
+                due(line - since <= 60, "the method of line " + since + " is too long");
+                isMethod = false;
+            }
+            for (char c : row.toCharArray()) open += c == '{' ? 1 : c == '}' ? -1 : 0;
+        }
+        due(open == 0, "the text's brackets do not close");
+    }
+
+    /** Objects and arrays that an object holds, and their fields and elements. */
+    private static long[] room(Object start) throws Exception {
+        Set<Object> met = Collections.newSetFromMap(new IdentityHashMap<>());
+        ArrayDeque<Object> open = new ArrayDeque<>();
+        open.add(start);
+        met.add(start);
+        long parts = 0;
+        while (!open.isEmpty()) {
+            Object now = open.poll();
+            if (now.getClass().isArray()) {
+                int many = Array.getLength(now);
+                parts += many;
+                for (int i = 0; i < many && now instanceof Object[]; i++) meet(Array.get(now, i), met, open);
+                continue;
+            }
+            for (Field field : now.getClass().getDeclaredFields()) {
+                if (Modifier.isStatic(field.getModifiers())) continue;
+                parts++;
+                field.setAccessible(true);
+                if (!field.getType().isPrimitive()) meet(field.get(now), met, open);
+            }
+        }
+        return new long[] {met.size(), parts};
+    }
+
+    private static void meet(Object found, Set<Object> met, ArrayDeque<Object> open) {
+        if (found != null && met.add(found)) open.add(found);
+    }
+
+    private static void lookAtRoom() throws Exception {
+        LikeWords x = new LikeWords();
+        long[] before = room(x);
+        due(before[0] * 513 <= 600000, "512 objects would take " + before[0] * 513 + " objects and arrays");
+        due(before[1] * 513 <= 7300000, "512 objects would take " + before[1] * 513 + " fields and elements");
+        x.letter(0);
+        x.letter(0);
+        x.slot(1);
+        x.law(1, 0);
+        x.see(12);
+        x.makes(1, 0);
+        x.inverse(1, 2);
+        x.nth(1000, 3);
+        x.rank(3);
+        long[] after = room(x);
+        due(after[0] == before[0] && after[1] == before[1], "the object has grown");
+        System.out.println("an object takes " + before[0] + " objects and arrays, " + before[1] + " fields and elements");
+    }
+
+    public static void main(String[] args) throws Exception {
+        lookAtFace();
+        lookAtText();
+        lookAtRoom();
+        System.out.println(wrong == 0 ? "the face is as due" : wrong + " things are not as due");
+        if (wrong != 0) System.exit(1);
+    }
+}
