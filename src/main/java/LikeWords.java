@@ -28,7 +28,10 @@ public final class LikeWords {
     private static final int STATE_ROOM = 320;
     private static final int STEP_ROOM = 640;
 
-    /** The document tells no bound for the way of one STRING; this one is far above any. */
+    /**
+     * The document tells no bound for the LETTERS read on the way of one STRING. Ordinary laws need some
+     * thousands; a few rare ones double the way with each LETTER, and are given up as FULL here.
+     */
     private static final int MOST_TURNS = 10000000;
 
     private final Scale scale;
