@@ -2,7 +2,8 @@
  * Words under laws: what is like what, the rules that bring each word to the least like it,
  * and the machine that takes just the least ones. The document's promises say what each call answers.
  *
- * All rows are made with the object and used again: no call after that makes anything.
+ * All rows are made with the object and used again; only the Narrower, which few laws ask for, is made by
+ * the call that first needs it.
  */
 public final class LikeWords {
     public static final int UNKNOWN = -1, OUTSIDE = -2, STATE = -3, FULL = -4, NONE = -9;
@@ -29,10 +30,16 @@ public final class LikeWords {
     private static final int STEP_ROOM = 640;
 
     /**
-     * The document tells no bound for the LETTERS read on the way of one STRING. Ordinary laws need some
-     * thousands; a few rare ones double the way with each LETTER, and are given up as FULL here.
+     * LETTERS that are read at most on the plain way of one STRING. Ordinary laws need some thousands; a few
+     * double the way with each LETTER, and what is left of it then is the Narrower's.
      */
+    private static final int PLAIN_TURNS = 20000;
+
+    /** The document tells no bound; this one is far above the Narrower's needs, some thousands of turns. */
     private static final int MOST_TURNS = 10000000;
+
+    /** A power of two. What does not find room drives out what was there: it is only slower then. */
+    private static final int KNOWN_ROOM = 2048;
 
     private final Scale scale;
     private final Word string;
@@ -162,6 +169,7 @@ public final class LikeWords {
             return FULL;
         }
         machine.build();
+        rewriter.forget();
         proved = proof.holds(lawSides, lawsHeld);
         if (proved) {
             machine.tally();
@@ -432,8 +440,12 @@ public final class LikeWords {
         return putBehind(part) && made.add(sum);
     }
 
-    /** A STRING with room for so many LETTERS. */
+    /**
+     * A STRING with room for so many LETTERS. It may be told by two longs, its head and its tail: behind a 1
+     * thirty LETTERS in each, of two bits.
+     */
     private static final class Word {
+        static final int HALF = 30;
         final int[] signs;
         int used;
 
@@ -451,6 +463,32 @@ public final class LikeWords {
             }
             signs[used++] = sign;
             return true;
+        }
+
+        void pushFirst(int sign) {
+            if (used < 0 || used >= signs.length) {
+                return;
+            }
+            for (int i = used; i > 0; i--) {
+                signs[i] = signs[i - 1];
+            }
+            signs[0] = sign;
+            used++;
+        }
+
+        int dropFirst() {
+            int sign = pick(0);
+            for (int i = 1; i < used; i++) {
+                signs[i - 1] = signs[i];
+            }
+            used = Math.max(used - 1, 0);
+            return sign;
+        }
+
+        int dropLast() {
+            int sign = pick(used - 1);
+            used = Math.max(used - 1, 0);
+            return sign;
         }
 
         int pick(int i) {
@@ -485,6 +523,31 @@ public final class LikeWords {
                 }
             }
             return true;
+        }
+
+        /** The head from 0, the tail from HALF. */
+        long part(int from) {
+            long packed = 1;
+            for (int i = Math.max(from, 0); i < used && i < from + HALF; i++) {
+                packed = packed * 4 + signs[i];
+            }
+            return packed;
+        }
+
+        void read(long head, long tail) {
+            used = 0;
+            unpack(head);
+            unpack(tail);
+        }
+
+        private void unpack(long packed) {
+            int many = 0;
+            while (many < HALF && (packed >> (2 * many)) > 1) {
+                many++;
+            }
+            for (int k = many - 1; k >= 0 && used < signs.length; k--) {
+                signs[used++] = (int) ((packed >> (2 * k)) & 3);
+            }
         }
     }
 
@@ -726,20 +789,20 @@ public final class LikeWords {
             return left ? leftSpans[r] : rightSpans[r];
         }
 
-        private long codeOf(int r, boolean left) {
+        int signAt(int r, boolean left, int i) {
             if (r < 0 || r >= RULE_COUNT) {
                 return 0;
             }
-            return left ? leftCodes[r] : rightCodes[r];
-        }
-
-        int signAt(int r, boolean left, int i) {
-            return (int) (codeOf(r, left) >> (2 * (spanOf(r, left) - 1 - i))) & 3;
+            int behind = (left ? leftSpans[r] : rightSpans[r]) - 1 - i;
+            return (int) ((left ? leftCodes[r] : rightCodes[r]) >> (2 * behind)) & 3;
         }
 
         /** Of the LEFT side, LETTERS from .. to - 1, as a code. */
         long leftPart(int r, int from, int to) {
-            long beginning = codeOf(r, true) >> (2 * (spanOf(r, true) - to));
+            if (r < 0 || r >= RULE_COUNT) {
+                return 0;
+            }
+            long beginning = leftCodes[r] >> (2 * (leftSpans[r] - to));
             return beginning & ((1L << (2 * (to - from))) - 1);
         }
 
@@ -752,13 +815,10 @@ public final class LikeWords {
             return scale.firstOf(span) + value / scale.powerOf(leftSpans[r] - span);
         }
 
-        boolean copy(int r, boolean left, int from, int to, Word target) {
+        void copy(int r, boolean left, int from, int to, Word target) {
             for (int i = Math.max(from, 0); i < to; i++) {
-                if (!target.push(signAt(r, left, i))) {
-                    return false;
-                }
+                target.push(signAt(r, left, i));
             }
-            return true;
         }
 
         int withLeft(int number) {
@@ -985,13 +1045,19 @@ public final class LikeWords {
         }
     }
 
-    /** REDUCES STRINGS: at the place where the first LEFT side ends, of several there the longest. */
+    /**
+     * REDUCES STRINGS: at the place where the first LEFT side ends, of several there the longest, as long as
+     * that is not too far; the Narrower goes on from there in another order. The order is free. RIGHT sides are
+     * ahead of LEFT ones, so all ways end; if the RULES are CLOSED, all end alike; and if they are not, two
+     * STRINGS of the proof are there that no order brings together.
+     */
     private static final class Rewriter {
         private final Rules rules;
         private final Machine machine;
         private final int[] rest;
         private final int[] places;
         private int restUsed;
+        private Narrower narrower;
 
         Rewriter(Rules rules, Machine machine) {
             this.rules = rules;
@@ -1000,20 +1066,38 @@ public final class LikeWords {
             places = new int[WORD_ROOM + 1];
         }
 
-        /**
-         * The target holds what is read and has no LEFT side in it, with the STATES along it, the rest
-         * what is to be read, its first LETTER last. Source and target may be the same.
-         */
+        /** The RULES are other ones now. */
+        void forget() {
+            if (narrower != null) {
+                narrower.known.wipe();
+            }
+        }
+
+        /** Source and target may be the same. False if there is no room, or no end. */
         boolean run(Word source, Word target) {
             restUsed = 0;
             for (int i = Math.min(source.used, WORD_ROOM) - 1; i >= 0; i--) {
                 rest[restUsed++] = source.signs[i];
             }
             target.wipe();
-            for (int turn = 0; turn < MOST_TURNS; turn++) {
-                if (restUsed <= 0) {
-                    return true;
-                }
+            if (!readOn(target)) {
+                return false;
+            }
+            if (restUsed <= 0) {
+                return true;
+            }
+            if (narrower == null) {
+                narrower = new Narrower(rules, machine);
+            }
+            return putRestBack(target) && narrower.run(target);
+        }
+
+        /**
+         * The target holds what is read and has no LEFT side in it, with the STATES along it, the rest
+         * what is to be read, its first LETTER last.
+         */
+        private boolean readOn(Word target) {
+            for (int turn = 0; turn < PLAIN_TURNS && restUsed > 0; turn++) {
                 int sign = rest[--restUsed];
                 int next = machine.step(places[target.used], sign);
                 boolean isRoom = next < 0 ? replace(-1 - next, target) : target.push(sign);
@@ -1024,7 +1108,7 @@ public final class LikeWords {
                     places[target.used] = next;
                 }
             }
-            return false;
+            return true;
         }
 
         /** The last LETTER of the LEFT side is read, but not in the target yet. */
@@ -1040,9 +1124,161 @@ public final class LikeWords {
             }
             return true;
         }
+
+        private boolean putRestBack(Word target) {
+            for (int i = restUsed - 1; i >= 0; i--) {
+                if (!target.push(rest[i])) {
+                    return false;
+                }
+            }
+            return true;
+        }
     }
 
-    /** Whether the RULES are CLOSED. */
+    /** What STRINGS are known to REDUCE to. */
+    private static final class Known {
+        private final long[] heads;
+        private final long[] tails;
+        private final long[] endHeads;
+        private final long[] endTails;
+
+        Known() {
+            heads = new long[KNOWN_ROOM];
+            tails = new long[KNOWN_ROOM];
+            endHeads = new long[KNOWN_ROOM];
+            endTails = new long[KNOWN_ROOM];
+        }
+
+        void wipe() {
+            for (int i = 0; i < KNOWN_ROOM; i++) {
+                // The head of a STRING is never 0.
+                heads[i] = 0;
+            }
+        }
+
+        private int placeFor(long head, long tail) {
+            long mixed = (head * 31 + tail) * 0x9E3779B97F4A7C15L;
+            return (int) (mixed >>> 40) & (KNOWN_ROOM - 1);
+        }
+
+        void keep(long head, long tail, Word end) {
+            int i = placeFor(head, tail);
+            heads[i] = head;
+            tails[i] = tail;
+            endHeads[i] = end.part(0);
+            endTails[i] = end.part(Word.HALF);
+        }
+
+        /** Puts what it REDUCES to in place of a STRING; false if that is not known. */
+        boolean end(Word word) {
+            long head = word.part(0);
+            long tail = word.part(Word.HALF);
+            int i = placeFor(head, tail);
+            if (heads[i] != head || tails[i] != tail) {
+                return false;
+            }
+            word.read(endHeads[i], endTails[i]);
+            return true;
+        }
+    }
+
+    /**
+     * REDUCES a STRING by way of its parts: that without the last LETTER first, then that without the first
+     * one, each in the same way by itself; and keeps what each part came to. So a way that goes through the
+     * same parts again and again, doubling with each LETTER, is gone but once.
+     */
+    private static final class Narrower {
+        private final Rules rules;
+        private final Machine machine;
+        private final long[] heads;
+        private final long[] tails;
+        private final int[] dropped;
+        private final boolean[] isFirst;
+        private int depth;
+        private int met;
+        final Known known;
+
+        Narrower(Rules rules, Machine machine) {
+            this.rules = rules;
+            this.machine = machine;
+            heads = new long[WORD_ROOM + 1];
+            tails = new long[WORD_ROOM + 1];
+            dropped = new int[WORD_ROOM + 1];
+            isFirst = new boolean[WORD_ROOM + 1];
+            known = new Known();
+        }
+
+        /** False if there is no end. */
+        boolean run(Word word) {
+            depth = 0;
+            begin(word);
+            for (int turn = 0; turn < MOST_TURNS; turn++) {
+                int end = firstEnd(word);
+                if (end > 0) {
+                    if (!known.end(word) && !replaceAll(word)) {
+                        narrow(word, end);
+                    }
+                    continue;
+                }
+                known.keep(heads[depth], tails[depth], word);
+                if (depth <= 0) {
+                    return true;
+                }
+                widen(word);
+            }
+            return false;
+        }
+
+        private void begin(Word word) {
+            heads[depth] = word.part(0);
+            tails[depth] = word.part(Word.HALF);
+        }
+
+        /** How many LETTERS are read when a LEFT side ends, which is met then; 0: none is in the STRING. */
+        private int firstEnd(Word word) {
+            int state = 0;
+            for (int i = 0; i < word.used; i++) {
+                state = machine.step(state, word.signs[i]);
+                if (state < 0) {
+                    met = -1 - state;
+                    return i + 1;
+                }
+            }
+            return 0;
+        }
+
+        /** False if the STRING is not all of the LEFT side that is met. */
+        private boolean replaceAll(Word word) {
+            if (rules.spanOf(met, true) != word.used) {
+                return false;
+            }
+            word.wipe();
+            rules.copy(met, false, 0, rules.spanOf(met, false), word);
+            return true;
+        }
+
+        /** The LEFT side that is met, not being all, is in one of the two parts still. */
+        private void narrow(Word word, int end) {
+            if (depth >= WORD_ROOM) {
+                return;
+            }
+            isFirst[depth] = end >= word.used;
+            dropped[depth] = isFirst[depth] ? word.dropFirst() : word.dropLast();
+            depth++;
+            begin(word);
+        }
+
+        private void widen(Word word) {
+            depth--;
+            if (isFirst[depth]) {
+                word.pushFirst(dropped[depth]);
+            } else {
+                word.push(dropped[depth]);
+            }
+        }
+    }
+
+    /** Whether the RULES are CLOSED. Two LEFT sides have some forty LETTERS at most, so there is room. */
     private static final class Proof {
         private final Rules rules;
         private final Rewriter rewriter;
@@ -1065,55 +1301,52 @@ public final class LikeWords {
                 }
             }
             for (int r = 0; r < rules.held; r++) {
+                int span = rules.spanOf(r, true);
                 for (int q = 0; q < rules.held; q++) {
-                    if (!agreeWhereTheyMeet(r, q) || (r != q && !agreeWhereOneIsWithin(r, q))) {
-                        return false;
+                    int spanQ = rules.spanOf(q, true);
+                    for (int v = 1; v < span && v < spanQ; v++) {
+                        if (meets(r, q, v) && !agree()) {
+                            return false;
+                        }
+                    }
+                    for (int from = 0; r != q && from + spanQ <= span; from++) {
+                        if (encloses(r, q, from) && !agree()) {
+                            return false;
+                        }
                     }
                 }
             }
             return true;
         }
 
-        /** LEFT sides u v of r and v w of q. */
-        private boolean agreeWhereTheyMeet(int r, int q) {
+        /** Whether LEFT sides are u v of r and v w of q; then the two ways are begun. */
+        private boolean meets(int r, int q, int v) {
             int span = rules.spanOf(r, true);
-            int spanQ = rules.spanOf(q, true);
-            for (int v = 1; v < span && v < spanQ; v++) {
-                if (rules.leftPart(r, span - v, span) != rules.leftPart(q, 0, v)) {
-                    continue;
-                }
-                one.wipe();
-                other.wipe();
-                boolean isRoom = copyRight(r, one) && rules.copy(q, true, v, spanQ, one)
-                        && rules.copy(r, true, 0, span - v, other) && copyRight(q, other);
-                if (!isRoom || !agree()) {
-                    return false;
-                }
+            if (rules.leftPart(r, span - v, span) != rules.leftPart(q, 0, v)) {
+                return false;
             }
+            one.wipe();
+            rules.copy(r, false, 0, rules.spanOf(r, false), one);
+            rules.copy(q, true, v, rules.spanOf(q, true), one);
+            other.wipe();
+            rules.copy(r, true, 0, span - v, other);
+            rules.copy(q, false, 0, rules.spanOf(q, false), other);
             return true;
         }
 
-        /** LEFT sides u v w of r and v of q; what is LEAST may have a part that is not. */
-        private boolean agreeWhereOneIsWithin(int r, int q) {
-            int span = rules.spanOf(r, true);
+        /** LEFT sides u v w of r and v of q, likewise; what is LEAST may have a part that is not. */
+        private boolean encloses(int r, int q, int from) {
             int spanQ = rules.spanOf(q, true);
-            for (int from = 0; from + spanQ <= span; from++) {
-                if (rules.leftPart(r, from, from + spanQ) != rules.leftPart(q, 0, spanQ)) {
-                    continue;
-                }
-                one.wipe();
-                other.wipe();
-                boolean isRoom = copyRight(r, one) && rules.copy(r, true, 0, from, other)
-                        && copyRight(q, other) && rules.copy(r, true, from + spanQ, span, other);
-                if (!isRoom || !agree()) {
-                    return false;
-                }
+            if (rules.leftPart(r, from, from + spanQ) != rules.leftPart(q, 0, spanQ)) {
+                return false;
             }
+            one.wipe();
+            rules.copy(r, false, 0, rules.spanOf(r, false), one);
+            other.wipe();
+            rules.copy(r, true, 0, from, other);
+            rules.copy(q, false, 0, rules.spanOf(q, false), other);
+            rules.copy(r, true, from + spanQ, rules.spanOf(r, true), other);
             return true;
-        }
-
-        private boolean copyRight(int r, Word target) {
-            return rules.copy(r, false, 0, rules.spanOf(r, false), target);
         }
 
         private boolean agree() {
@@ -1175,9 +1408,8 @@ public final class LikeWords {
         }
     }
 
-    /** Different STRINGS, each packed into two longs: behind a 1, thirty LETTERS of two bits in each. */
+    /** Different STRINGS, each by its head and its tail. */
     private static final class Made {
-        private static final int HALF = 30;
         private final long[] heads;
         private final long[] tails;
         int held;
@@ -1196,8 +1428,8 @@ public final class LikeWords {
 
         /** False if it is new and there is no room. */
         boolean add(Word word) {
-            long head = pack(word, 0);
-            long tail = pack(word, HALF);
+            long head = word.part(0);
+            long tail = word.part(Word.HALF);
             for (int i = 0; i < held; i++) {
                 if (heads[i] == head && tails[i] == tail) {
                     return true;
@@ -1212,29 +1444,10 @@ public final class LikeWords {
             return true;
         }
 
-        private long pack(Word word, int from) {
-            long packed = 1;
-            for (int i = from; i < word.used && i < from + HALF; i++) {
-                packed = packed * 4 + word.signs[i];
-            }
-            return packed;
-        }
-
         void read(int i, Word target) {
             target.wipe();
             if (i >= 0 && i < held) {
-                unpack(heads[i], target);
-                unpack(tails[i], target);
-            }
-        }
-
-        private void unpack(long packed, Word target) {
-            int many = 0;
-            while (many < HALF && (packed >> (2 * many)) > 1) {
-                many++;
-            }
-            for (int k = many - 1; k >= 0; k--) {
-                target.push((int) ((packed >> (2 * k)) & 3));
+                target.read(heads[i], tails[i]);
             }
         }
     }
