@@ -39,7 +39,7 @@ public final class LikeWords {
     private static final int MOST_TURNS = 10000000;
 
     /** A power of two. What does not find room drives out what was there: it is only slower then. */
-    private static final int KNOWN_ROOM = 2048;
+    private static final int KNOWN_ROOM = 65536;
 
     private final Scale scale;
     private final Word string;
@@ -1141,24 +1141,27 @@ public final class LikeWords {
         private final long[] tails;
         private final long[] endHeads;
         private final long[] endTails;
+        private boolean isEmpty;
 
         Known() {
             heads = new long[KNOWN_ROOM];
             tails = new long[KNOWN_ROOM];
             endHeads = new long[KNOWN_ROOM];
             endTails = new long[KNOWN_ROOM];
+            isEmpty = true;
         }
 
         void wipe() {
-            for (int i = 0; i < KNOWN_ROOM; i++) {
+            for (int i = 0; i < KNOWN_ROOM && !isEmpty; i++) {
                 // The head of a STRING is never 0.
                 heads[i] = 0;
             }
+            isEmpty = true;
         }
 
         private int placeFor(long head, long tail) {
             long mixed = (head * 31 + tail) * 0x9E3779B97F4A7C15L;
-            return (int) (mixed >>> 40) & (KNOWN_ROOM - 1);
+            return (int) (mixed >>> 48) & (KNOWN_ROOM - 1);
         }
 
         void keep(long head, long tail, Word end) {
@@ -1167,6 +1170,7 @@ public final class LikeWords {
             tails[i] = tail;
             endHeads[i] = end.part(0);
             endTails[i] = end.part(Word.HALF);
+            isEmpty = false;
         }
 
         /** Puts what it REDUCES to in place of a STRING; false if that is not known. */
