@@ -2,7 +2,7 @@
  * Words under laws: what is like what, the rules that bring each word to the least like it,
  * and the machine that takes just the least ones. The document's promises say what each call answers.
  *
- * All rows are made with the object and used again; only the Narrower, which few laws ask for, is made by
+ * All rows are made with the object and used again; only the Grower, which few laws ask for, is made by
  * the call that first needs it.
  */
 public final class LikeWords {
@@ -31,15 +31,15 @@ public final class LikeWords {
 
     /**
      * LETTERS that are read at most on the plain way of one STRING. Ordinary laws need some thousands; a few
-     * double the way with each LETTER, and what is left of it then is the Narrower's.
+     * double the way with each LETTER, and what is left of it then is the Grower's.
      */
     private static final int PLAIN_TURNS = 20000;
 
-    /** The document tells no bound; this one is far above the Narrower's needs, some thousands of turns. */
+    /** The document tells no bound; this one is far above the Grower's needs, mostly some thousands of turns. */
     private static final int MOST_TURNS = 10000000;
 
     /** A power of two. What does not find room drives out what was there: it is only slower then. */
-    private static final int KNOWN_ROOM = 65536;
+    private static final int KNOWN_ROOM = 32768;
 
     private final Scale scale;
     private final Word string;
@@ -476,15 +476,6 @@ public final class LikeWords {
             used++;
         }
 
-        int dropFirst() {
-            int sign = pick(0);
-            for (int i = 1; i < used; i++) {
-                signs[i - 1] = signs[i];
-            }
-            used = Math.max(used - 1, 0);
-            return sign;
-        }
-
         int dropLast() {
             int sign = pick(used - 1);
             used = Math.max(used - 1, 0);
@@ -506,11 +497,22 @@ public final class LikeWords {
             if (used + other.used > signs.length) {
                 return false;
             }
-            for (int i = 0; i < other.used; i++) {
-                signs[used + i] = other.signs[i];
-            }
-            used += other.used;
+            appendPart(other, 0, other.used);
             return true;
+        }
+
+        /** LETTERS from .. to - 1 of another STRING, as far as there is room. */
+        void appendPart(Word other, int from, int to) {
+            for (int i = Math.max(from, 0); i < to && i < other.used && used < signs.length; i++) {
+                signs[used++] = other.signs[i];
+            }
+        }
+
+        /** The same from the last one to the first. */
+        void appendBackwards(Word other, int from, int to) {
+            for (int i = Math.min(to, other.used) - 1; i >= from && i >= 0 && used < signs.length; i--) {
+                signs[used++] = other.signs[i];
+            }
         }
 
         boolean isSame(Word other) {
@@ -525,10 +527,10 @@ public final class LikeWords {
             return true;
         }
 
-        /** The head from 0, the tail from HALF. */
-        long part(int from) {
+        /** LETTERS from .. to - 1, of these the first HALF. */
+        long pack(int from, int to) {
             long packed = 1;
-            for (int i = Math.max(from, 0); i < used && i < from + HALF; i++) {
+            for (int i = Math.max(from, 0); i < used && i < to && i < from + HALF; i++) {
                 packed = packed * 4 + signs[i];
             }
             return packed;
@@ -922,7 +924,7 @@ public final class LikeWords {
         /** Where a LETTER leads; below 0: nowhere, being -1 less the RULE whose LEFT side ends there. */
         int step(int state, int l) {
             int i = state * scale.letterCount + l;
-            return has(state) && i >= 0 && i < STEP_ROOM ? steps[i] : 0;
+            return state >= 0 && state < held && i >= 0 && i < STEP_ROOM ? steps[i] : 0;
         }
 
         void tally() {
@@ -1047,7 +1049,7 @@ public final class LikeWords {
 
     /**
      * REDUCES STRINGS: at the place where the first LEFT side ends, of several there the longest, as long as
-     * that is not too far; the Narrower goes on from there in another order. The order is free. RIGHT sides are
+     * that is not too far; the Grower goes on from there in another order. The order is free. RIGHT sides are
      * ahead of LEFT ones, so all ways end; if the RULES are CLOSED, all end alike; and if they are not, two
      * STRINGS of the proof are there that no order brings together.
      */
@@ -1057,7 +1059,7 @@ public final class LikeWords {
         private final int[] rest;
         private final int[] places;
         private int restUsed;
-        private Narrower narrower;
+        private Grower grower;
 
         Rewriter(Rules rules, Machine machine) {
             this.rules = rules;
@@ -1068,8 +1070,8 @@ public final class LikeWords {
 
         /** The RULES are other ones now. */
         void forget() {
-            if (narrower != null) {
-                narrower.known.wipe();
+            if (grower != null) {
+                grower.known.wipe();
             }
         }
 
@@ -1086,10 +1088,10 @@ public final class LikeWords {
             if (restUsed <= 0) {
                 return true;
             }
-            if (narrower == null) {
-                narrower = new Narrower(rules, machine);
+            if (grower == null) {
+                grower = new Grower(rules, machine);
             }
-            return putRestBack(target) && narrower.run(target);
+            return putRestBack(target) && grower.run(target);
         }
 
         /**
@@ -1164,121 +1166,185 @@ public final class LikeWords {
             return (int) (mixed >>> 48) & (KNOWN_ROOM - 1);
         }
 
-        void keep(long head, long tail, Word end) {
+        /** That LETTERS from .. to - 1 of a STRING REDUCE to those of another one. */
+        void keep(Word key, int from, int to, Word end, int endFrom, int endTo) {
+            long head = key.pack(from, to);
+            long tail = key.pack(from + Word.HALF, to);
             int i = placeFor(head, tail);
             heads[i] = head;
             tails[i] = tail;
-            endHeads[i] = end.part(0);
-            endTails[i] = end.part(Word.HALF);
+            endHeads[i] = end.pack(endFrom, endTo);
+            endTails[i] = end.pack(endFrom + Word.HALF, endTo);
             isEmpty = false;
         }
 
-        /** Puts what it REDUCES to in place of a STRING; false if that is not known. */
-        boolean end(Word word) {
-            long head = word.part(0);
-            long tail = word.part(Word.HALF);
+        /** What LETTERS from .. to - 1 of a STRING REDUCE to; false if that is not known. */
+        boolean tell(Word key, int from, int to, Word target) {
+            long head = key.pack(from, to);
+            long tail = key.pack(from + Word.HALF, to);
             int i = placeFor(head, tail);
             if (heads[i] != head || tails[i] != tail) {
                 return false;
             }
-            word.read(endHeads[i], endTails[i]);
+            target.read(endHeads[i], endTails[i]);
             return true;
         }
     }
 
     /**
-     * REDUCES a STRING by way of its parts: that without the last LETTER first, then that without the first
-     * one, each in the same way by itself; and keeps what each part came to. So a way that goes through the
-     * same parts again and again, doubling with each LETTER, is gone but once.
+     * REDUCES a STRING by a part that grows, LETTER by LETTER, and has no LEFT side in it. Where a LETTER brings
+     * one in, the RIGHT side becomes the part, and LETTERS at the other side of it wait, to be the next that come
+     * back. What the part and that LETTER came to in the end is kept for when they meet again: the long ways are
+     * those on which the same parts meet over and over.
+     *
+     * A level is opened by such a LETTER, and closed when all LETTERS that wait for it are back.
      */
-    private static final class Narrower {
+    private static final class Grower {
         private final Rules rules;
         private final Machine machine;
-        private final long[] heads;
-        private final long[] tails;
-        private final int[] dropped;
-        private final boolean[] isFirst;
-        private int depth;
+        private final Word ahead;
+        private final Word behind;
+        private final Word joined;
+        private final Word[] starts;
+        private final int[] waiting;
+        private final int[] idle;
+        private final boolean[] isAhead;
+        private final boolean[] isWhole;
+        private int level;
         private int met;
         final Known known;
 
-        Narrower(Rules rules, Machine machine) {
+        /** Above the first one each open level has a LETTER that waits, and one more start is being tried. */
+        Grower(Rules rules, Machine machine) {
             this.rules = rules;
             this.machine = machine;
-            heads = new long[WORD_ROOM + 1];
-            tails = new long[WORD_ROOM + 1];
-            dropped = new int[WORD_ROOM + 1];
-            isFirst = new boolean[WORD_ROOM + 1];
+            ahead = new Word(WORD_ROOM);
+            behind = new Word(WORD_ROOM);
+            joined = new Word(WORD_ROOM);
+            starts = new Word[WORD_ROOM + 2];
+            for (int i = 0; i < starts.length; i++) {
+                starts[i] = new Word(WORD_ROOM);
+            }
+            waiting = new int[starts.length];
+            idle = new int[starts.length];
+            isAhead = new boolean[starts.length];
+            isWhole = new boolean[starts.length];
             known = new Known();
         }
 
         /** False if there is no end. */
-        boolean run(Word word) {
-            depth = 0;
-            begin(word);
+        boolean run(Word part) {
+            ahead.wipe();
+            behind.wipe();
+            behind.appendBackwards(part, 0, part.used);
+            part.wipe();
+            level = 0;
+            await(false, behind.used, true);
             for (int turn = 0; turn < MOST_TURNS; turn++) {
-                int end = firstEnd(word);
-                if (end > 0) {
-                    if (!known.end(word) && !replaceAll(word)) {
-                        narrow(word, end);
-                    }
-                    continue;
-                }
-                known.keep(heads[depth], tails[depth], word);
-                if (depth <= 0) {
+                if (waiting[level] > 0) {
+                    grow(part);
+                } else if (level > 0) {
+                    keep(part);
+                    level--;
+                } else {
                     return true;
                 }
-                widen(word);
             }
             return false;
         }
 
-        private void begin(Word word) {
-            heads[depth] = word.part(0);
-            tails[depth] = word.part(Word.HALF);
+        private void await(boolean isAheadNow, int many, boolean isWholeNow) {
+            isAhead[level] = isAheadNow;
+            waiting[level] = many;
+            isWhole[level] = isWholeNow;
+            idle[level] = 0;
         }
 
-        /** How many LETTERS are read when a LEFT side ends, which is met then; 0: none is in the STRING. */
-        private int firstEnd(Word word) {
+        /** LETTERS that came back last and changed nothing are no part of what is learnt. */
+        private void keep(Word part) {
+            Word start = starts[level];
+            int spared = isWhole[level] ? 0 : idle[level];
+            if (isAhead[level]) {
+                known.keep(start, spared, start.used, part, spared, part.used);
+            } else {
+                known.keep(start, 0, start.used - spared, part, 0, part.used - spared);
+            }
+        }
+
+        private void grow(Word part) {
+            waiting[level]--;
+            if (isAhead[level]) {
+                part.pushFirst(ahead.dropLast());
+            } else {
+                part.push(behind.dropLast());
+            }
+            if (hasLeft(part)) {
+                idle[level] = 0;
+                replace(part, isAhead[level]);
+            } else {
+                idle[level]++;
+            }
+        }
+
+        /** Whether a LEFT side is in a STRING, which is met then. */
+        private boolean hasLeft(Word word) {
             int state = 0;
             for (int i = 0; i < word.used; i++) {
                 state = machine.step(state, word.signs[i]);
                 if (state < 0) {
                     met = -1 - state;
-                    return i + 1;
+                    return true;
                 }
             }
-            return 0;
+            return false;
         }
 
-        /** False if the STRING is not all of the LEFT side that is met. */
-        private boolean replaceAll(Word word) {
-            if (rules.spanOf(met, true) != word.used) {
-                return false;
-            }
-            word.wipe();
-            rules.copy(met, false, 0, rules.spanOf(met, false), word);
-            return true;
-        }
-
-        /** The LEFT side that is met, not being all, is in one of the two parts still. */
-        private void narrow(Word word, int end) {
-            if (depth >= WORD_ROOM) {
+        /** The LEFT side begins or ends with the LETTER that came, being the first or the last one. */
+        private void replace(Word part, boolean isFirst) {
+            if (level + 1 >= starts.length) {
                 return;
             }
-            isFirst[depth] = end >= word.used;
-            dropped[depth] = isFirst[depth] ? word.dropFirst() : word.dropLast();
-            depth++;
-            begin(word);
+            Word start = starts[level + 1];
+            start.take(part);
+            int left = putShorter(start, part, isFirst);
+            int from = isFirst ? start.used - left : 0;
+            joined.wipe();
+            joined.appendPart(start, 0, isFirst ? 0 : left);
+            joined.appendPart(part, 0, part.used);
+            joined.appendPart(start, from, isFirst ? start.used : 0);
+            if (!hasLeft(joined)) {
+                part.take(joined);
+                return;
+            }
+            boolean isOpen = level > 0 && waiting[level] <= 0;
+            if (!isOpen) {
+                level++;
+            }
+            if (hasLeft(part)) {
+                // A RIGHT side may have a part that is not LEAST.
+                behind.appendBackwards(joined, 0, joined.used);
+                part.wipe();
+                await(false, joined.used, true);
+            } else if (isFirst) {
+                behind.appendBackwards(start, from, start.used);
+                await(false, left, isOpen);
+            } else {
+                ahead.appendPart(start, 0, left);
+                await(true, left, isOpen);
+            }
         }
 
-        private void widen(Word word) {
-            depth--;
-            if (isFirst[depth]) {
-                word.pushFirst(dropped[depth]);
-            } else {
-                word.push(dropped[depth]);
+        /** The most that is known, or else the LEFT side, is replaced; how many LETTERS are left over. */
+        private int putShorter(Word start, Word part, boolean isFirst) {
+            int most = Math.max(start.used - rules.spanOf(met, true), 0);
+            for (int left = 0; left <= most; left++) {
+                if (known.tell(start, isFirst ? 0 : left, isFirst ? start.used - left : start.used, part)) {
+                    return left;
+                }
             }
+            part.wipe();
+            rules.copy(met, false, 0, rules.spanOf(met, false), part);
+            return most;
         }
     }
 
@@ -1432,8 +1498,8 @@ public final class LikeWords {
 
         /** False if it is new and there is no room. */
         boolean add(Word word) {
-            long head = word.part(0);
-            long tail = word.part(Word.HALF);
+            long head = word.pack(0, word.used);
+            long tail = word.pack(Word.HALF, word.used);
             for (int i = 0; i < held; i++) {
                 if (heads[i] == head && tails[i] == tail) {
                     return true;
