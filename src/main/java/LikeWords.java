@@ -36,7 +36,7 @@ public final class LikeWords {
     private static final int PLAIN_TURNS = 20000;
 
     /** The document tells no bound; this one is far above the Grower's needs, mostly some thousands of turns. */
-    private static final int MOST_TURNS = 10000000;
+    private static final int MOST_TURNS = 1000000000;
 
     /** A power of two. What does not find room drives out what was there: it is only slower then. */
     private static final int KNOWN_ROOM = 32768;

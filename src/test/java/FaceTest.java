@@ -142,7 +142,37 @@ public final class FaceTest {
         x.rank(3);
         long[] after = room(x);
         due(after[0] == before[0] && after[1] == before[1], "the object has grown");
+        lookAtGrower();
         System.out.println("an object takes " + before[0] + " objects and arrays, " + before[1] + " fields and elements");
+    }
+
+    private static void put(LikeWords x, int slot, String s) {
+        for (char c : s.toCharArray()) x.letter(c - '0');
+        x.slot(slot);
+    }
+
+    /** A long way makes the Grower, once: a run of 513 calls has room for objects with it that take 25 calls each. */
+    private static void lookAtGrower() throws Exception {
+        LikeWords x = new LikeWords();
+        x.letters(3);
+        String[] sides = {"20", "00", "012", "100", "12", "21"};
+        for (int i = 0; i < sides.length; i++) {
+            put(x, i % 2, sides[i]);
+            if (i % 2 == 1) x.law(0, 1);
+        }
+        x.see(3);
+        put(x, 0, "1".repeat(20) + "0".repeat(40));
+        x.reduce(0, 1);
+        long[] once = room(x);
+        due(once[0] * 20 <= 600000 && once[1] * 20 <= 7300000, "with the Grower it takes " + once[1] + " elements");
+        put(x, 2, "1".repeat(25) + "0".repeat(35));
+        x.reduce(2, 1);
+        x.see(4);
+        x.reduce(2, 1);
+        x.power(0, 1, 3);
+        long[] twice = room(x);
+        due(once[0] == twice[0] && once[1] == twice[1], "the object has grown twice");
+        System.out.println("with the Grower it takes " + once[0] + " objects and arrays, " + once[1] + " fields and elements");
     }
 
     public static void main(String[] args) throws Exception {

@@ -379,6 +379,23 @@ public final class PromisesTest {
         put(z, times("1", 30) + times("0", 30), 1);
         due("reduce(1, 1) of thirty and thirty", z.reduce(1, 1), 60);
         due("SLOT 1", text(z, 1), times("0", 30) + times("1", 30));
+        rightSidesWithLeftSides();
+    }
+
+    /** A RIGHT side may have a LEFT side in it, where STRINGS that lead further would be longer than what is SEEN. */
+    private static void rightSidesWithLeftSides() {
+        LikeWords x = made(4, "223=,3=,0=22,000=111,32=", 3);
+        due("RULES", rules(x), "0>,2>,3>,111>000");
+        due("closed()", x.closed(), 1);
+        put(x, "1121113111", 1);
+        due("reduce(1, 2), RIGHT side with LEFT ones", x.reduce(1, 2), 2);
+        due("SLOT 2", text(x, 2), "11");
+        LikeWords y = made(3, "100=1012,0=1212,2=", 8);
+        due("RULES", rules(y), "2>,10>01,11>0,000>00,001>00,1000001>1000000");
+        due("closed()", y.closed(), 1);
+        put(y, "1000001", 1);
+        due("reduce(1, 2), RIGHT side with LEFT ones", y.reduce(1, 2), 2);
+        due("SLOT 2", text(y, 2), "00");
     }
 
     private static void like() {
