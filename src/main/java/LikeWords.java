@@ -536,19 +536,17 @@ public final class LikeWords {
             return packed;
         }
 
-        void read(long head, long tail) {
+        void unpack(long head, long tail) {
             used = 0;
-            unpack(head);
-            unpack(tail);
-        }
-
-        private void unpack(long packed) {
-            int many = 0;
-            while (many < HALF && (packed >> (2 * many)) > 1) {
-                many++;
-            }
-            for (int k = many - 1; k >= 0 && used < signs.length; k--) {
-                signs[used++] = (int) ((packed >> (2 * k)) & 3);
+            for (int part = 0; part < 2; part++) {
+                long packed = part == 0 ? head : tail;
+                int many = 0;
+                while (many < HALF && (packed >> (2 * many)) > 1) {
+                    many++;
+                }
+                for (int k = many - 1; k >= 0 && used < signs.length; k--) {
+                    signs[used++] = (int) ((packed >> (2 * k)) & 3);
+                }
             }
         }
     }
@@ -797,6 +795,11 @@ public final class LikeWords {
             }
             int behind = (left ? leftSpans[r] : rightSpans[r]) - 1 - i;
             return (int) ((left ? leftCodes[r] : rightCodes[r]) >> (2 * behind)) & 3;
+        }
+
+        /** The RIGHT side as the head of a STRING. */
+        long packedRight(int r) {
+            return r >= 0 && r < RULE_COUNT ? rightCodes[r] | 1L << (2 * rightSpans[r]) : 1;
         }
 
         /** Of the LEFT side, LETTERS from .. to - 1, as a code. */
@@ -1141,8 +1144,8 @@ public final class LikeWords {
     private static final class Known {
         private final long[] heads;
         private final long[] tails;
-        private final long[] endHeads;
-        private final long[] endTails;
+        final long[] endHeads;
+        final long[] endTails;
         private boolean isEmpty;
 
         Known() {
@@ -1161,9 +1164,13 @@ public final class LikeWords {
             isEmpty = true;
         }
 
-        private int placeFor(long head, long tail) {
+        int placeFor(long head, long tail) {
             long mixed = (head * 31 + tail) * 0x9E3779B97F4A7C15L;
             return (int) (mixed >>> 48) & (KNOWN_ROOM - 1);
+        }
+
+        boolean isAt(int place, long head, long tail) {
+            return place >= 0 && place < KNOWN_ROOM && heads[place] == head && tails[place] == tail;
         }
 
         /** That LETTERS from .. to - 1 of a STRING REDUCE to those of another one. */
@@ -1176,18 +1183,6 @@ public final class LikeWords {
             endHeads[i] = end.pack(endFrom, endTo);
             endTails[i] = end.pack(endFrom + Word.HALF, endTo);
             isEmpty = false;
-        }
-
-        /** What LETTERS from .. to - 1 of a STRING REDUCE to; false if that is not known. */
-        boolean tell(Word key, int from, int to, Word target) {
-            long head = key.pack(from, to);
-            long tail = key.pack(from + Word.HALF, to);
-            int i = placeFor(head, tail);
-            if (heads[i] != head || tails[i] != tail) {
-                return false;
-            }
-            target.read(endHeads[i], endTails[i]);
-            return true;
         }
     }
 
@@ -1241,13 +1236,19 @@ public final class LikeWords {
             level = 0;
             await(false, behind.used, true);
             for (int turn = 0; turn < MOST_TURNS; turn++) {
-                if (waiting[level] > 0) {
-                    grow(part);
-                } else if (level > 0) {
+                if (waiting[level] <= 0) {
+                    if (level <= 0) {
+                        return true;
+                    }
                     keep(part);
                     level--;
-                } else {
-                    return true;
+                    continue;
+                }
+                grow(part);
+                idle[level]++;
+                if (hasLeft(part)) {
+                    idle[level] = 0;
+                    replace(part, isAhead[level]);
                 }
             }
             return false;
@@ -1277,12 +1278,6 @@ public final class LikeWords {
                 part.pushFirst(ahead.dropLast());
             } else {
                 part.push(behind.dropLast());
-            }
-            if (hasLeft(part)) {
-                idle[level] = 0;
-                replace(part, isAhead[level]);
-            } else {
-                idle[level]++;
             }
         }
 
@@ -1338,12 +1333,17 @@ public final class LikeWords {
         private int putShorter(Word start, Word part, boolean isFirst) {
             int most = Math.max(start.used - rules.spanOf(met, true), 0);
             for (int left = 0; left <= most; left++) {
-                if (known.tell(start, isFirst ? 0 : left, isFirst ? start.used - left : start.used, part)) {
+                int from = isFirst ? 0 : left;
+                int to = isFirst ? start.used - left : start.used;
+                long head = start.pack(from, to);
+                long tail = start.pack(from + Word.HALF, to);
+                int i = known.placeFor(head, tail);
+                if (known.isAt(i, head, tail)) {
+                    part.unpack(known.endHeads[i], known.endTails[i]);
                     return left;
                 }
             }
-            part.wipe();
-            rules.copy(met, false, 0, rules.spanOf(met, false), part);
+            part.unpack(rules.packedRight(met), 1);
             return most;
         }
     }
@@ -1517,7 +1517,7 @@ public final class LikeWords {
         void read(int i, Word target) {
             target.wipe();
             if (i >= 0 && i < held) {
-                target.read(heads[i], tails[i]);
+                target.unpack(heads[i], tails[i]);
             }
         }
     }
