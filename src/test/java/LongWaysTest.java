@@ -180,6 +180,26 @@ public final class LongWaysTest {
                 "111111111111111111111111111111111111111111111221111111122210");
     }
 
+    /** Long from either side, in ever more levels that are begun one by the last LETTER of another. */
+    private static void lookAtChains() {
+        String laws = "2110=0122 0111=2111 0212=2100 2101=1101 022=200 021=201";
+        dueReduced(made(3, laws, 4), "222222222211222222222220000000000000000000111111",
+                "000000000000000000000000000000000000000100111111");
+        dueReduced(made(3, laws, 4), "2221000000000000000000000000000000000011111111111111111",
+                "0000000000000000000000000000000000011011111111111111111");
+        dueReduced(made(3, "022=200 10=01 1121=2221 10=21", 6), "222222222222222000000000000000000011111111",
+                "0".repeat(40) + "11");
+    }
+
+    /** 31 becomes 01, and what is ahead counts down: 301, 231, 201, 031, 001; twice as long with each 3. */
+    private static void lookAtCounting() {
+        for (int threes = 1; threes < 60; threes++) {
+            LikeWords x = made(4, "03=20 31=01 30=23", 2);
+            String ones = "1".repeat(60 - threes);
+            dueReduced(x, "3".repeat(threes) + ones, "0".repeat(threes) + ones);
+        }
+    }
+
     public static void main(String[] args) {
         lookAtPassing();
         lookAtOtherCalls();
@@ -187,6 +207,8 @@ public final class LongWaysTest {
         lookAtForgetting();
         lookAtLeftLong();
         lookAtBothLong();
+        lookAtChains();
+        lookAtCounting();
         System.out.println(wrong == 0 ? "long ways: all answers are as due" : wrong + " answers are not as due");
         if (wrong != 0) System.exit(1);
     }
