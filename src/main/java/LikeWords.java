@@ -1192,7 +1192,8 @@ public final class LikeWords {
      * back. What the part and that LETTER came to in the end is kept for when they meet again: the long ways are
      * those on which the same parts meet over and over.
      *
-     * A level is opened by such a LETTER, and closed when all LETTERS that wait for it are back.
+     * A level is opened by such a LETTER, and closed when all LETTERS that wait for it are back. It is whole if
+     * LETTERS at both ends of its start have been changed.
      */
     private static final class Grower {
         private final Rules rules;
@@ -1311,6 +1312,7 @@ public final class LikeWords {
                 part.take(joined);
                 return;
             }
+            // With its last LETTER a level goes on instead of opening another: the chain of these may be very long.
             boolean isOpen = level > 0 && waiting[level] <= 0;
             if (!isOpen) {
                 level++;
