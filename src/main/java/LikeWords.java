@@ -35,11 +35,8 @@ public final class LikeWords {
      */
     private static final int PLAIN_TURNS = 20000;
 
-    /** The document tells no bound; this one is far above the Grower's needs, mostly some thousands of turns. */
-    private static final int MOST_TURNS = 1000000000;
-
-    /** A power of two. What does not find room drives out what was there: it is only slower then. */
-    private static final int KNOWN_ROOM = 32768;
+    /** Fewer than 2000 LEAST STRINGS have been passed when the next one is sought: this is far above. */
+    private static final int MOST_TURNS = 1000000;
 
     private final Scale scale;
     private final Word string;
@@ -465,21 +462,12 @@ public final class LikeWords {
             return true;
         }
 
-        void pushFirst(int sign) {
-            if (used < 0 || used >= signs.length) {
-                return;
-            }
-            for (int i = used; i > 0; i--) {
-                signs[i] = signs[i - 1];
-            }
-            signs[0] = sign;
-            used++;
-        }
-
         int dropLast() {
-            int sign = pick(used - 1);
-            used = Math.max(used - 1, 0);
-            return sign;
+            if (used <= 0 || used > signs.length) {
+                return NONE;
+            }
+            used--;
+            return signs[used];
         }
 
         int pick(int i) {
@@ -497,22 +485,20 @@ public final class LikeWords {
             if (used + other.used > signs.length) {
                 return false;
             }
-            appendPart(other, 0, other.used);
+            for (int i = 0; i < other.used; i++) {
+                signs[used++] = other.signs[i];
+            }
             return true;
         }
 
-        /** LETTERS from .. to - 1 of another STRING, as far as there is room. */
-        void appendPart(Word other, int from, int to) {
-            for (int i = Math.max(from, 0); i < to && i < other.used && used < signs.length; i++) {
-                signs[used++] = other.signs[i];
+        /** LETTERS of another STRING from a place on leave it, the last one first; how many. */
+        int drawFrom(Word other, int from) {
+            int before = used;
+            while (other.used > from && other.used > 0 && used < signs.length) {
+                other.used--;
+                signs[used++] = other.signs[other.used];
             }
-        }
-
-        /** The same from the last one to the first. */
-        void appendBackwards(Word other, int from, int to) {
-            for (int i = Math.min(to, other.used) - 1; i >= from && i >= 0 && used < signs.length; i--) {
-                signs[used++] = other.signs[i];
-            }
+            return used - before;
         }
 
         boolean isSame(Word other) {
@@ -846,6 +832,13 @@ public final class LikeWords {
         return low < held && low < row.length && row[low] == number ? low : -1 - low;
     }
 
+    /** What stands in a row from a place on comes to a place ahead of it. */
+    private static void moveDown(int[] row, int from, int to, int many) {
+        for (int i = 0; i < many && to >= 0 && to <= from && from + i < row.length; i++) {
+            row[to + i] = row[from + i];
+        }
+    }
+
     /** THE MACHINE, made for any RULES; what it counts has a meaning only if they are CLOSED. */
     private static final class Machine {
         private final Scale scale;
@@ -856,6 +849,7 @@ public final class LikeWords {
         private long[] spare;
         final long[] counts;
         int held;
+        int met;
         boolean endless;
 
         Machine(Scale scale, Rules rules) {
@@ -928,6 +922,30 @@ public final class LikeWords {
         int step(int state, int l) {
             int i = state * scale.letterCount + l;
             return state >= 0 && state < held && i >= 0 && i < STEP_ROOM ? steps[i] : 0;
+        }
+
+        /**
+         * Reads on from a place in a STRING, where its STATE is known: where the first LEFT side ends, which is met
+         * then, or -1. LETTERS from the place same on are as they were, with the STATES behind them.
+         */
+        int read(Word word, int[] places, int start, int same) {
+            if (start < 0 || start > word.used || word.used >= places.length) {
+                return -1;
+            }
+            int state = places[start];
+            for (int i = start; i < word.used; i++) {
+                int at = state * scale.letterCount + word.signs[i];
+                state = at >= 0 && at < STEP_ROOM ? steps[at] : 0;
+                if (state < 0) {
+                    met = -1 - state;
+                    return i;
+                }
+                if (i >= same && places[i + 1] == state) {
+                    return -1;
+                }
+                places[i + 1] = state;
+            }
+            return -1;
         }
 
         void tally() {
@@ -1140,48 +1158,119 @@ public final class LikeWords {
         }
     }
 
-    /** What STRINGS are known to REDUCE to. */
+    /**
+     * What STRINGS are known to REDUCE to. A key is read from either of its ends, so that LETTERS can be dropped at
+     * the other one: behind a 1 if it is read forwards, a 2 if backwards, the first HALF of its LETTERS are its head;
+     * the others, behind a 1, its tail.
+     */
     private static final class Known {
-        private final long[] heads;
-        private final long[] tails;
-        final long[] endHeads;
-        final long[] endTails;
+        /** Powers of two. */
+        private static final int ROOM = 32768;
+        private static final int WIDE_ROOM = 262144;
+        private static final int NEAR = 4;
+        private static final long HEAD_FULL = 1L << (2 * Word.HALF);
+        private long[] heads;
+        private long[] tails;
+        private long[] endHeads;
+        private long[] endTails;
         private boolean isEmpty;
+        long head;
+        long tail;
 
         Known() {
-            heads = new long[KNOWN_ROOM];
-            tails = new long[KNOWN_ROOM];
-            endHeads = new long[KNOWN_ROOM];
-            endTails = new long[KNOWN_ROOM];
+            makeRoom(ROOM);
+        }
+
+        private void makeRoom(int room) {
+            heads = new long[room];
+            tails = new long[room];
+            endHeads = new long[room];
+            endTails = new long[room];
             isEmpty = true;
         }
 
+        /** What was known is soon learnt again. */
+        void widen() {
+            if (heads.length < WIDE_ROOM) {
+                makeRoom(WIDE_ROOM);
+            }
+        }
+
         void wipe() {
-            for (int i = 0; i < KNOWN_ROOM && !isEmpty; i++) {
-                // The head of a STRING is never 0.
+            for (int i = 0; i < heads.length && !isEmpty; i++) {
+                // The head of a key is never 0.
                 heads[i] = 0;
             }
             isEmpty = true;
         }
 
-        int placeFor(long head, long tail) {
+        void begin(boolean isBackwards) {
+            head = isBackwards ? 2 : 1;
+            tail = 1;
+        }
+
+        void push(int sign) {
+            if (head < HEAD_FULL) {
+                head = head * 4 + sign;
+            } else {
+                tail = tail * 4 + sign;
+            }
+        }
+
+        void drop() {
+            if (tail > 1) {
+                tail >>= 2;
+            } else {
+                head >>= 2;
+            }
+        }
+
+        /** A key without the LETTERS that were read last. */
+        void take(long wholeHead, long wholeTail, int spared) {
+            head = wholeHead;
+            tail = wholeTail;
+            for (int i = 0; i < spared; i++) {
+                drop();
+            }
+        }
+
+        private int firstPlace() {
             long mixed = (head * 31 + tail) * 0x9E3779B97F4A7C15L;
-            return (int) (mixed >>> 48) & (KNOWN_ROOM - 1);
+            return (int) (mixed >>> 44) & (heads.length - NEAR);
         }
 
-        boolean isAt(int place, long head, long tail) {
-            return place >= 0 && place < KNOWN_ROOM && heads[place] == head && tails[place] == tail;
+        /** Whether the key is known; then what it REDUCES to. */
+        boolean find(Word end) {
+            int first = firstPlace();
+            for (int i = first; i < first + NEAR && i < heads.length; i++) {
+                if (heads[i] == head && tails[i] == tail) {
+                    end.unpack(endHeads[i], endTails[i]);
+                    return true;
+                }
+            }
+            return false;
         }
 
-        /** That LETTERS from .. to - 1 of a STRING REDUCE to those of another one. */
-        void keep(Word key, int from, int to, Word end, int endFrom, int endTo) {
-            long head = key.pack(from, to);
-            long tail = key.pack(from + Word.HALF, to);
-            int i = placeFor(head, tail);
-            heads[i] = head;
-            tails[i] = tail;
-            endHeads[i] = end.pack(endFrom, endTo);
-            endTails[i] = end.pack(endFrom + Word.HALF, endTo);
+        /**
+         * That the key REDUCES to LETTERS from .. to - 1 of a STRING. Of the keys that are near the longest gives
+         * way: shorter ones meet more often.
+         */
+        void keep(Word word, int from, int to) {
+            int first = firstPlace();
+            int place = first;
+            for (int i = first; i < first + NEAR && i < heads.length; i++) {
+                if (heads[i] == 0 || (heads[i] == head && tails[i] == tail)) {
+                    place = i;
+                    break;
+                }
+                if (tails[i] > tails[place] || (tails[i] == tails[place] && heads[i] > heads[place])) {
+                    place = i;
+                }
+            }
+            heads[place] = head;
+            tails[place] = tail;
+            endHeads[place] = word.pack(from, to);
+            endTails[place] = word.pack(from + Word.HALF, to);
             isEmpty = false;
         }
     }
@@ -1192,64 +1281,73 @@ public final class LikeWords {
      * back. What the part and that LETTER came to in the end is kept for when they meet again: the long ways are
      * those on which the same parts meet over and over.
      *
-     * A level is opened by such a LETTER, and closed when all LETTERS that wait for it are back. It is whole if
-     * LETTERS at both ends of its start have been changed.
+     * The row holds LETTERS that wait ahead of the part and then, from a place on, the part, with the STATES along
+     * it; LETTERS that wait behind it stand backwards. A level is opened by a LETTER that brings in a LEFT side, and
+     * closed when all LETTERS that wait for it are back. It is whole if LETTERS at both ends of its start have been
+     * changed.
      */
     private static final class Grower {
+        /**
+         * Each turn brings the STRING ahead in ORDER, and there are fewer than 4 to the 61st STRINGS: so many laps
+         * of so many turns, 4 to the 62nd in all, are more than any way has.
+         */
+        private static final long MANY = 1L << 62;
+
+        /** Few ways are as long as this, and then more room is worth it. */
+        private static final long LONG_WAY = 1000000;
+
         private final Rules rules;
         private final Machine machine;
-        private final Word ahead;
+        private final Word row;
         private final Word behind;
-        private final Word joined;
-        private final Word[] starts;
+        private final Word end;
+        private final int[] places;
+        private final long[] startHeads;
+        private final long[] startTails;
         private final int[] waiting;
         private final int[] idle;
         private final boolean[] isAhead;
         private final boolean[] isWhole;
+        private int from;
         private int level;
-        private int met;
         final Known known;
 
-        /** Above the first one each open level has a LETTER that waits, and one more start is being tried. */
+        /** Above the first one each open level but the last has a LETTER that waits. */
         Grower(Rules rules, Machine machine) {
             this.rules = rules;
             this.machine = machine;
-            ahead = new Word(WORD_ROOM);
+            row = new Word(WORD_ROOM);
             behind = new Word(WORD_ROOM);
-            joined = new Word(WORD_ROOM);
-            starts = new Word[WORD_ROOM + 2];
-            for (int i = 0; i < starts.length; i++) {
-                starts[i] = new Word(WORD_ROOM);
-            }
-            waiting = new int[starts.length];
-            idle = new int[starts.length];
-            isAhead = new boolean[starts.length];
-            isWhole = new boolean[starts.length];
+            end = new Word(WORD_ROOM);
+            places = new int[WORD_ROOM + 1];
+            int levels = WORD_ROOM + 2;
+            startHeads = new long[levels];
+            startTails = new long[levels];
+            waiting = new int[levels];
+            idle = new int[levels];
+            isAhead = new boolean[levels];
+            isWhole = new boolean[levels];
             known = new Known();
         }
 
-        /** False if there is no end. */
-        boolean run(Word part) {
-            ahead.wipe();
+        /** False if there is no end, which can't be. */
+        boolean run(Word word) {
+            row.wipe();
             behind.wipe();
-            behind.appendBackwards(part, 0, part.used);
-            part.wipe();
+            from = 0;
+            places[from] = 0;
             level = 0;
-            await(false, behind.used, true);
-            for (int turn = 0; turn < MOST_TURNS; turn++) {
-                if (waiting[level] <= 0) {
-                    if (level <= 0) {
+            await(false, behind.drawFrom(word, 0), true);
+            for (long lap = 0; lap < MANY; lap++) {
+                for (long turn = 0; turn < MANY; turn++) {
+                    if (!growOn()) {
+                        word.take(row);
                         return true;
                     }
-                    keep(part);
-                    level--;
-                    continue;
-                }
-                grow(part);
-                idle[level]++;
-                if (hasLeft(part)) {
-                    idle[level] = 0;
-                    replace(part, isAhead[level]);
+                    replace(isAhead[level]);
+                    if (turn == LONG_WAY) {
+                        known.widen();
+                    }
                 }
             }
             return false;
@@ -1262,91 +1360,109 @@ public final class LikeWords {
             idle[level] = 0;
         }
 
-        /** LETTERS that came back last and changed nothing are no part of what is learnt. */
-        private void keep(Word part) {
-            Word start = starts[level];
-            int spared = isWhole[level] ? 0 : idle[level];
-            if (isAhead[level]) {
-                known.keep(start, spared, start.used, part, spared, part.used);
-            } else {
-                known.keep(start, 0, start.used - spared, part, 0, part.used - spared);
-            }
-        }
-
-        private void grow(Word part) {
-            waiting[level]--;
-            if (isAhead[level]) {
-                part.pushFirst(ahead.dropLast());
-            } else {
-                part.push(behind.dropLast());
-            }
-        }
-
-        /** Whether a LEFT side is in a STRING, which is met then. */
-        private boolean hasLeft(Word word) {
-            int state = 0;
-            for (int i = 0; i < word.used; i++) {
-                state = machine.step(state, word.signs[i]);
-                if (state < 0) {
-                    met = -1 - state;
-                    return true;
+        /** LETTERS come back till one brings in a LEFT side; false if all are back. */
+        private boolean growOn() {
+            for (int i = 0; i < 4 * WORD_ROOM; i++) {
+                if (waiting[level] > 0) {
+                    waiting[level]--;
+                    idle[level]++;
+                    if (grow()) {
+                        idle[level] = 0;
+                        return true;
+                    }
+                } else if (level > 0) {
+                    // LETTERS that came back last and changed nothing are no part of what is learnt.
+                    int spared = isWhole[level] ? 0 : idle[level];
+                    known.take(startHeads[level], startTails[level], spared);
+                    int first = from + (isAhead[level] ? spared : 0);
+                    known.keep(row, first, row.used - (isAhead[level] ? 0 : spared));
+                    level--;
+                } else {
+                    return false;
                 }
             }
             return false;
         }
 
-        /** The LEFT side begins or ends with the LETTER that came, being the first or the last one. */
-        private void replace(Word part, boolean isFirst) {
-            if (level + 1 >= starts.length) {
-                return;
+        private boolean grow() {
+            if (!isAhead[level]) {
+                row.push(behind.dropLast());
+                return machine.read(row, places, row.used - 1, row.used) >= 0;
             }
-            Word start = starts[level + 1];
-            start.take(part);
-            int left = putShorter(start, part, isFirst);
-            int from = isFirst ? start.used - left : 0;
-            joined.wipe();
-            joined.appendPart(start, 0, isFirst ? 0 : left);
-            joined.appendPart(part, 0, part.used);
-            joined.appendPart(start, from, isFirst ? start.used : 0);
-            if (!hasLeft(joined)) {
-                part.take(joined);
-                return;
+            from = Math.max(from - 1, 0);
+            places[from] = 0;
+            return machine.read(row, places, from, from) >= 0;
+        }
+
+        /** The LEFT side begins or ends the part; the most that is known, or else that, is replaced. */
+        private void replace(boolean isFirst) {
+            known.begin(!isFirst);
+            for (int i = from; i < row.used; i++) {
+                known.push(row.signs[isFirst ? i : row.used - 1 - (i - from)]);
             }
-            // With its last LETTER a level goes on instead of opening another: the chain of these may be very long.
-            boolean isOpen = level > 0 && waiting[level] <= 0;
-            if (!isOpen) {
-                level++;
+            long head = known.head;
+            long tail = known.tail;
+            int most = Math.max(row.used - from - rules.spanOf(machine.met, true), 0);
+            int left = 0;
+            while (left <= most && !known.find(end)) {
+                known.drop();
+                left++;
             }
-            if (hasLeft(part)) {
-                // A RIGHT side may have a part that is not LEAST.
-                behind.appendBackwards(joined, 0, joined.used);
-                part.wipe();
-                await(false, joined.used, true);
-            } else if (isFirst) {
-                behind.appendBackwards(start, from, start.used);
-                await(false, left, isOpen);
+            if (left > most) {
+                left = most;
+                end.unpack(rules.packedRight(machine.met), 1);
+            }
+            if (isFirst) {
+                replaceFirst(left, head, tail);
             } else {
-                ahead.appendPart(start, 0, left);
-                await(true, left, isOpen);
+                replaceLast(left, head, tail);
             }
         }
 
-        /** The most that is known, or else the LEFT side, is replaced; how many LETTERS are left over. */
-        private int putShorter(Word start, Word part, boolean isFirst) {
-            int most = Math.max(start.used - rules.spanOf(met, true), 0);
-            for (int left = 0; left <= most; left++) {
-                int from = isFirst ? 0 : left;
-                int to = isFirst ? start.used - left : start.used;
-                long head = start.pack(from, to);
-                long tail = start.pack(from + Word.HALF, to);
-                int i = known.placeFor(head, tail);
-                if (known.isAt(i, head, tail)) {
-                    part.unpack(known.endHeads[i], known.endTails[i]);
-                    return left;
-                }
+        private void replaceFirst(int left, long head, long tail) {
+            int rest = row.used - left;
+            int same = from + end.used;
+            moveDown(row.signs, rest, same, left);
+            moveDown(places, rest + 1, same + 1, left);
+            row.used = from;
+            row.append(end);
+            row.used += left;
+            int at = machine.read(row, places, from, same);
+            if (at < 0) {
+                return;
             }
-            part.unpack(rules.packedRight(met), 1);
-            return most;
+            // A RIGHT side may have a part that is not LEAST: then it comes back LETTER by LETTER too.
+            boolean isRaw = at < same;
+            boolean isOpen = open(head, tail);
+            await(false, behind.drawFrom(row, isRaw ? from : same), isOpen || isRaw);
+        }
+
+        private void replaceLast(int left, long head, long tail) {
+            int kept = from + left;
+            row.used = kept;
+            row.append(end);
+            if (machine.read(row, places, kept, row.used) < 0) {
+                return;
+            }
+            boolean isOpen = open(head, tail);
+            places[kept] = 0;
+            if (machine.read(row, places, kept, row.used) < 0) {
+                from = kept;
+                await(true, left, isOpen);
+            } else {
+                await(false, behind.drawFrom(row, from), true);
+            }
+        }
+
+        /** With its last LETTER a level goes on instead of opening another: the chain of these may be very long. */
+        private boolean open(long head, long tail) {
+            if (level > 0 && waiting[level] <= 0) {
+                return true;
+            }
+            level = Math.min(level + 1, waiting.length - 1);
+            startHeads[level] = head;
+            startTails[level] = tail;
+            return false;
         }
     }
 

@@ -143,6 +143,7 @@ public final class FaceTest {
         long[] after = room(x);
         due(after[0] == before[0] && after[1] == before[1], "the object has grown");
         lookAtGrower();
+        lookAtWideGrower();
         System.out.println("an object takes " + before[0] + " objects and arrays, " + before[1] + " fields and elements");
     }
 
@@ -173,6 +174,28 @@ public final class FaceTest {
         long[] twice = room(x);
         due(once[0] == twice[0] && once[1] == twice[1], "the object has grown twice");
         System.out.println("with the Grower it takes " + once[0] + " objects and arrays, " + once[1] + " fields and elements");
+    }
+
+    /** A very long way makes more room, once; of what was made before, the rows of what is known are given up. */
+    private static void lookAtWideGrower() throws Exception {
+        LikeWords x = new LikeWords();
+        x.letters(4);
+        String[] sides = {"20", "03", "30", "23", "3100", "0131", "3110", "0133", "3101", "0133", "3111", "0111"};
+        for (int i = 0; i < sides.length; i++) {
+            put(x, i % 2, sides[i]);
+            if (i % 2 == 1) x.law(0, 1);
+        }
+        x.see(4);
+        put(x, 0, "33333310011001001011001110111001101011101111011011111111111111".substring(0, 60));
+        x.reduce(0, 1);
+        long[] once = room(x);
+        long made = once[1] + 4 * 32768;
+        due(once[1] > 1000000, "the way was not long enough to ask for more room");
+        due(made * 6 <= 7300000, "six objects with wide Growers would take " + made * 6 + " fields and elements");
+        x.reduce(0, 1);
+        long[] twice = room(x);
+        due(once[0] == twice[0] && once[1] == twice[1], "the wide object has grown");
+        System.out.println("with a wide Grower it takes " + once[1] + " fields and elements");
     }
 
     public static void main(String[] args) throws Exception {
