@@ -23,6 +23,9 @@ public final class EdgesTest {
     private static final String ELEVEN = "10=01,000000000001=";
     private static final String LONGEST_THIRTY = "010=011,00000000000=0,0011=0110,11111111111=1";
     private static final String LONGEST_THIRTY_ONE = "010=011,000000000000=0,0011=0110,11111111111=1";
+    private static final String[] NO_TWO_ZEROS = {
+        "", "0", "1", "01", "10", "11", "010", "011", "101", "110", "111", "0101", "0110", "0111", "1010", "1011", "1101"
+    };
     private static final String FORTY_RULES = "01000=0001,1100=1011,11110=01101";
     private static final String FORTY_ONE_RULES = "0=1011,10001=11110";
 
@@ -669,8 +672,17 @@ public final class EdgesTest {
             due("closed() of these", made(2, "011=,011=0", 3).closed(), 0);
             due("RULES where one is amid another", rules(made(2, "101=,101=0", 3)), "0>,101>");
             due("closed() of these", made(2, "101=,101=0", 3).closed(), 0);
+            // Here both sides of the LAW agree, and so does what has but a part in common.
+            due("RULES where one ends another", rules(made(2, "=10110", 8)), "110>101,10110>");
+            due("closed() of these", made(2, "=10110", 8).closed(), 0);
             due("RULES where one is in another, and agrees", rules(made(1, "0=00000,000000=00000", 7)), "00>0,00000>0");
             due("closed() of these", made(1, "0=00000,000000=00000", 7).closed(), 1);
+            due("RULES where one begins another, and agrees", rules(made(2, "100=,011=", 7)), "1>0,000>,100>");
+            due("closed() of these", made(2, "100=,011=", 7).closed(), 1);
+            due("RULES where one ends another, and agrees", rules(made(2, "001=,=000", 4)), "1>0,000>,001>");
+            due("closed() of these", made(2, "001=,=000", 4).closed(), 1);
+            due("RULES where one is at all places of another", rules(made(1, "=0000,00=0000", 4)), "00>,0000>");
+            due("closed() of these", made(1, "=0000,00=0000", 4).closed(), 1);
         });
         says(TERMS, "and none of the STRINGS on the way has more than 60 LETTERS.", () -> {
             // No STRING can: u v w of the longest LEFT sides has not forty, and none gets longer on the way.
@@ -849,6 +861,7 @@ public final class EdgesTest {
             // Two as before: this is no less than another number.
             for (int n = 1; n <= 4; n++) {
                 Words x = full();
+                put(x, "1", 0);
                 for (int k = 4; k < 8; k++) put(x, "1", k);
                 collect(x, "011");
                 x.letters(n);
@@ -1233,6 +1246,12 @@ public final class EdgesTest {
             due("closed(), SEEN to less again", x.closed(), 0);
             x.see(0);
             due("closed() behind see(0)", x.closed(), 0);
+            Words y = made(2, "01=0,10=1", 2);
+            due("closed() of two RULES", y.closed(), 0);
+            y.free();
+            put(put(y, "01", 0), "0", 1).law(0, 1);
+            due("see(2)", y.see(2), 1);
+            due("closed() of one of them alone", y.closed(), 1);
         });
         says(14, "STATE.", () -> {
             due("closed() at first", new Words().closed(), STATE);
@@ -1342,10 +1361,12 @@ public final class EdgesTest {
             due("states() of LEFT sides of one LETTER each", made(4, "0=,1=,2=,3=", 6).states(), 1);
             due("states() of six", closedOnes().states(), 4);
             due("states() of two LEFT sides of twelve", made(2, "000000000000=,111111111111=", 12).states(), 23);
-            Words x = closedOnes();
-            x.see(1);
+            Words x = notClosed();
             x.see(12);
-            due("states(), SEEN again", x.states(), 4);
+            due("states(), SEEN to more, when there were more RULES", x.states(), 4);
+            x.free();
+            x.see(12);
+            due("states() without RULES, when there were some", x.states(), 1);
         });
         says(17, "STATE.", () -> dueState("states()", x -> x.states()));
     }
@@ -1456,6 +1477,11 @@ public final class EdgesTest {
             due("SLOT 0", text(y, 0), times("0", 30));
             due("nth of the last one of 29", y.nth(all - power(4, 30) - 1, 0), 29);
             due("SLOT 0", text(y, 0), times("3", 29));
+            Words z = made(2, "00=", 2);
+            for (int i = 0; i < NO_TWO_ZEROS.length; i++) {
+                z.nth(i, 0);
+                due("the STRING of number " + i + ", no two zeros", text(z, 0), NO_TWO_ZEROS[i]);
+            }
         });
         says(21, "UNKNOWN: SLOT;", () -> {
             for (int k : NO_SLOTS) {
@@ -1500,6 +1526,11 @@ public final class EdgesTest {
             due("rank of the last of 30", y.rank(1), (power(4, 31) - 1) / 3 - 1);
             put(y, times("0", 30), 1);
             due("rank of the first of 30", y.rank(1), (power(4, 30) - 1) / 3);
+            Words z = made(2, "00=", 2);
+            for (int i = 0; i < NO_TWO_ZEROS.length; i++) {
+                put(z, NO_TWO_ZEROS[i], 1);
+                due("rank of " + NO_TWO_ZEROS[i] + ", no two zeros", z.rank(1), i);
+            }
         });
         says(22, "UNKNOWN;", () -> {
             for (int k : NO_SLOTS) dueUnknown("rank", x -> x.rank(k));
@@ -1582,6 +1613,8 @@ public final class EdgesTest {
             due("order(2)", x.order(2), 2);
             due("order(1)", x.order(1), 3);
             due("SLOT 1", text(x, 1), "01");
+            due("power(1, 1, 4)", x.power(1, 1, 4), 2);
+            due("order(1), behind what was put together before", x.order(1), 3);
             due("order of a hundred", put(made(2, "0000000000=1,1111111111=", 12), "0", 1).order(1), 100);
             due("order of 99", put(made(2, "00000000000=1,111111111=", 12), "0", 1).order(1), 99);
         });
@@ -1702,6 +1735,8 @@ public final class EdgesTest {
             due("makes(1, 2)", x.makes(1, 2), 6);
             due("SLOT 2", text(x, 2), "1010110");
             due("makes of 300", ofTwo("000000000000=,111111111=1,100=001,1011=1101,1010=0101"), 300);
+            Words long31 = put(put(made(2, LONGEST_THIRTY_ONE, 12), "100", 1), "1111111111000", 2);
+            due("makes(1, 2), of which one has 31 LETTERS", long31.makes(1, 2), 113);
             due("makes of what does not come back to no LETTERS", put(made(1, "00=0", 2), "0", 1).makes(1, 1), 2);
         });
         says(26, "UNKNOWN;", () -> {
