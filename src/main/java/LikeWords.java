@@ -516,7 +516,7 @@ public final class LikeWords {
         /** LETTERS from .. to - 1, of these the first HALF. */
         long pack(int from, int to) {
             long packed = 1;
-            for (int i = Math.max(from, 0); i < used && i < to && i < from + HALF; i++) {
+            for (int i = from < 0 ? 0 : from; i < used && i < to && i < from + HALF; i++) {
                 packed = packed * 4 + signs[i];
             }
             return packed;
@@ -1459,7 +1459,9 @@ public final class LikeWords {
             if (level > 0 && waiting[level] <= 0) {
                 return true;
             }
-            level = Math.min(level + 1, waiting.length - 1);
+            if (level < waiting.length - 1) {
+                level++;
+            }
             startHeads[level] = head;
             startTails[level] = tail;
             return false;

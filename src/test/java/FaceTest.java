@@ -1,3 +1,5 @@
+import java.io.PrintWriter;
+import java.io.StringWriter;
 import java.lang.reflect.Array;
 import java.lang.reflect.Field;
 import java.lang.reflect.Method;
@@ -7,10 +9,13 @@ import java.nio.file.Path;
 import java.util.ArrayDeque;
 import java.util.Collections;
 import java.util.IdentityHashMap;
+import java.util.Map;
 import java.util.Set;
+import java.util.TreeMap;
 import java.util.TreeSet;
 import java.util.regex.Matcher;
 import java.util.regex.Pattern;
+import java.util.spi.ToolProvider;
 
 /** The face of the class, the rules of LANGUAGE.md that can be seen in its text, and the room that an object takes. */
 public final class FaceTest {
@@ -97,6 +102,71 @@ public final class FaceTest {
         due(open == 0, "the text's brackets do not close");
     }
 
+    /** Which methods each method of the compiled class calls, those of the library too; none if there is no javap. */
+    private static Map<String, Set<String>> calls() throws Exception {
+        Path room = Path.of(LikeWords.class.getProtectionDomain().getCodeSource().getLocation().toURI());
+        ToolProvider javap = ToolProvider.findFirst("javap").orElse(null);
+        Pattern head = Pattern.compile("  (?:[a-z]+ )*(?:[\\w$.\\[\\]]+ )?([\\w$]+)\\(.*\\);");
+        Pattern call = Pattern.compile(".* // Method ([^:]+):.*");
+        Map<String, Set<String>> all = new TreeMap<>();
+        if (javap == null) return all;
+        try (var files = Files.list(room)) {
+            for (Path file : files.toList()) {
+                String owner = file.getFileName().toString().replace(".class", "");
+                if (!owner.matches("LikeWords(\\$\\w+)?")) continue;
+                StringWriter text = new StringWriter();
+                javap.run(new PrintWriter(text), new PrintWriter(System.err), "-c", "-p", file.toString());
+                Set<String> now = null;
+                for (String row : text.toString().split("\\R")) {
+                    Matcher begun = head.matcher(row);
+                    Matcher called = call.matcher(row);
+                    if (begun.matches()) {
+                        String name = begun.group(1).equals(owner) ? "\"<init>\"" : begun.group(1);
+                        now = all.computeIfAbsent(owner + "." + name, key -> new TreeSet<>());
+                    } else if (now != null && called.matches()) {
+                        String name = called.group(1);
+                        now.add(name.contains(".") ? name : owner + "." + name);
+                    }
+                }
+            }
+        }
+        return all;
+    }
+
+    /** How many calls stand open at once at most; a method that comes back to itself goes too deep. */
+    private static int depth(Map<String, Set<String>> calls, String method, int open) {
+        int most = 0;
+        for (String next : calls.getOrDefault(method, Set.of())) {
+            if (open < 20) most = Math.max(most, depth(calls, next, open + 1));
+        }
+        return 1 + most;
+    }
+
+    private static void lookAtDepth() throws Exception {
+        Map<String, Set<String>> calls = calls();
+        if (calls.isEmpty()) {
+            System.out.println("there is no javap, so how deep calls go is not looked at");
+            return;
+        }
+        int most = 0;
+        for (String call : CALLS) {
+            String method = "LikeWords." + call.substring(call.indexOf(' ') + 1, call.indexOf('('));
+            due(calls.containsKey(method), "the compiled class has no " + method);
+            int depth = depth(calls, method, 1);
+            due(depth <= 8, method + " goes " + depth + " calls deep");
+            most = Math.max(most, depth);
+        }
+        due(most > 4, "calls go " + most + " deep, which can't be");
+        due(depth(calls, "LikeWords.\"<init>\"", 1) <= 8, "the constructor goes too deep");
+    }
+
+    /** README.md says so, and the number in the words is not far from that which is found. */
+    private static void dueSaid(String words, long found) throws Exception {
+        due(Files.readString(Path.of("README.md")).contains(words), "README.md does not say " + words);
+        long said = Long.parseLong(words.replaceAll("\\D", ""));
+        due(Math.abs(said - found) * 100 <= found, "README.md says " + words + ", there are " + found);
+    }
+
     /** Objects and arrays that an object holds, and their fields and elements. */
     private static long[] room(Object start) throws Exception {
         Set<Object> met = Collections.newSetFromMap(new IdentityHashMap<>());
@@ -142,8 +212,8 @@ public final class FaceTest {
         x.rank(3);
         long[] after = room(x);
         due(after[0] == before[0] && after[1] == before[1], "the object has grown");
-        lookAtGrower();
-        lookAtWideGrower();
+        dueSaid("some 13,700 elements", before[1]);
+        lookAtWideGrower(lookAtGrower(before[1]));
         System.out.println("an object takes " + before[0] + " objects and arrays, " + before[1] + " fields and elements");
     }
 
@@ -153,7 +223,7 @@ public final class FaceTest {
     }
 
     /** A long way makes the Grower, once: a run of 513 calls has room for objects with it that take 25 calls each. */
-    private static void lookAtGrower() throws Exception {
+    private static long lookAtGrower(long without) throws Exception {
         LikeWords x = new LikeWords();
         x.letters(3);
         String[] sides = {"20", "00", "012", "100", "12", "21"};
@@ -166,6 +236,7 @@ public final class FaceTest {
         x.reduce(0, 1);
         long[] once = room(x);
         due(once[0] * 20 <= 600000 && once[1] * 20 <= 7300000, "with the Grower it takes " + once[1] + " elements");
+        dueSaid("some 132,000 elements", once[1] - without);
         put(x, 2, "1".repeat(25) + "0".repeat(35));
         x.reduce(2, 1);
         x.see(4);
@@ -174,10 +245,11 @@ public final class FaceTest {
         long[] twice = room(x);
         due(once[0] == twice[0] && once[1] == twice[1], "the object has grown twice");
         System.out.println("with the Grower it takes " + once[0] + " objects and arrays, " + once[1] + " fields and elements");
+        return once[1];
     }
 
     /** A very long way makes more room, once; of what was made before, the rows of what is known are given up. */
-    private static void lookAtWideGrower() throws Exception {
+    private static void lookAtWideGrower(long narrow) throws Exception {
         LikeWords x = new LikeWords();
         x.letters(4);
         String[] sides = {"20", "03", "30", "23", "3100", "0131", "3110", "0133", "3101", "0133", "3111", "0111"};
@@ -191,6 +263,7 @@ public final class FaceTest {
         long[] once = room(x);
         long made = once[1] + 4 * 32768;
         due(once[1] > 1000000, "the way was not long enough to ask for more room");
+        dueSaid("some 1,050,000", made - narrow);
         due(made * 6 <= 7300000, "six objects with wide Growers would take " + made * 6 + " fields and elements");
         x.reduce(0, 1);
         long[] twice = room(x);
@@ -201,6 +274,7 @@ public final class FaceTest {
     public static void main(String[] args) throws Exception {
         lookAtFace();
         lookAtText();
+        lookAtDepth();
         lookAtRoom();
         System.out.println(wrong == 0 ? "the face is as due" : wrong + " things are not as due");
         if (wrong != 0) System.exit(1);
