@@ -44,14 +44,15 @@ public final class GrowerAloneTest {
         if (compiler == null) fail("there is no compiler");
         int got = compiler.run(null, null, null, "--release", "17", "-d", room.toString(), main.toString(),
                 "src/test/java/PromisesTest.java", "src/test/java/EdgesTest.java", "src/test/java/PlainModelTest.java",
-                "src/test/java/LongWaysTest.java");
+                "src/test/java/ManyWordsTest.java", "src/test/java/LongWaysTest.java");
         if (got != 0) fail("the changed class does not compile");
         URL[] where = {room.toUri().toURL()};
         try (URLClassLoader loader = new URLClassLoader(where, ClassLoader.getPlatformClassLoader())) {
             run(loader, "PromisesTest");
             run(loader, "EdgesTest");
-            if (isLong) run(loader, "LongWaysTest");
             run(loader, "PlainModelTest", firstSeed, lastSeed);
+            run(loader, "ManyWordsTest");
+            if (isLong) run(loader, "LongWaysTest");
         }
         try (var files = Files.list(room)) {
             for (Path file : files.toList()) Files.delete(file);
